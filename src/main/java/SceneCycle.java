@@ -466,9 +466,6 @@ public final class SceneCycle {
 
         void restart() {
             command = NONE;
-            penNumber = NONE;
-            atPoint = false;
-            taken = 0;
             commandCount = 0;
         }
 

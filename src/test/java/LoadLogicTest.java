@@ -178,6 +178,14 @@ public final class LoadLogicTest {
     }
 
     private static void loadedOnce() {
+        SceneCycle several = new SceneCycle(50);
+        Scenes.addLoaded(several, 2, Scenes.repeat(64, 0));
+        Scenes.putAll(several, 1, 7, 62);
+        CHECK.due("another logic's end", -2, several.load(1));
+        Scenes.putAll(several, 3, 7, 1, 4, 4, 4);
+        CHECK.due("another logic's instruction", -7, several.load(3));
+        several.put(3, 4, 1);
+        CHECK.due("another logic's instruction", -2, several.load(3));
         SceneCycle scene = new SceneCycle(50);
         CHECK.due("empty logic", 0, scene.load(3));
         CHECK.due("loaded already", -1, scene.load(3));
