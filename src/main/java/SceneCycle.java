@@ -384,11 +384,11 @@ public final class SceneCycle {
 
         private void line(int a, int b, int c, int d) {
             int n = Math.max(Math.abs(c - a), Math.abs(d - b));
-            drawAt(a, b);
+            draw(b * COLUMNS + a);
             for (int k = 1; k <= n; k++) {
                 int column = a + Math.floorDiv(2 * k * (c - a) + n, 2 * n);
                 int row = b + Math.floorDiv(2 * k * (d - b) + n, 2 * n);
-                drawAt(column, row);
+                draw(row * COLUMNS + column);
             }
         }
 
@@ -425,19 +425,19 @@ public final class SceneCycle {
                 reached[reachedCount] = place;
                 reachedCount++;
                 // Drawn at once: it is not blank any more, so it is not reached twice.
-                drawAt(x, y);
+                draw(place);
             }
         }
 
-        private void drawAt(int x, int y) {
-            if (!onScreen(x, y)) {
+        private void draw(int place) {
+            if (place < 0 || place >= CELLS) {
                 return;
             }
             if (penColour != NONE) {
-                colours[y * COLUMNS + x] = penColour;
+                colours[place] = penColour;
             }
             if (penControl != NONE) {
-                controls[y * COLUMNS + x] = penControl;
+                controls[place] = penControl;
             }
         }
     }
