@@ -95,6 +95,11 @@ public final class CellsTest {
         }
         CHECK.due("up to a wall", Scenes.rows('f', walled),
                 Scenes.shown(0, 240, 2, 244, 3, 0, 3, 11, 240, 5, 246, 0, 6, 255));
+        for (int y = 0; y < 12; y++) {
+            walled[y] = "fff2555555555555";
+        }
+        CHECK.due("up to a wall on the left", Scenes.rows('f', walled),
+                Scenes.shown(0, 240, 2, 244, 3, 0, 3, 11, 240, 5, 246, 8, 6, 255));
         CHECK.due("not round a corner", Scenes.rows('f', "52", "2"),
                 Scenes.shown(0, 240, 2, 244, 1, 0, 0, 1, 240, 5, 246, 0, 0, 255));
         CHECK.due("the whole screen", Scenes.rows('0'), Scenes.shown(0, 240, 0, 246, 15, 11, 255));
