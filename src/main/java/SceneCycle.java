@@ -655,7 +655,7 @@ public final class SceneCycle {
         }
 
         // The letters are those of the document where it has one: v, f, o, x, y, n, k, d, r, b, t;
-        // and e is an object other than 0, s a width or height.
+        // and e is an object other than 0, s a width or height, w a word (0 would be none).
         private static String operandsOf(int instruction) {
             switch (instruction) {
                 case Runner.ASSIGN:
@@ -684,7 +684,7 @@ public final class SceneCycle {
                 case Runner.EQUAL:
                 case Runner.BELOW: return "vn";
                 case Runner.FLAG: return "f";
-                case Runner.WORD: return "n";
+                case Runner.WORD: return "w";
                 case Runner.WITHIN: return "oxyxy";
                 case Runner.NOT: return "t";
                 default: return "tt";
@@ -702,7 +702,8 @@ public final class SceneCycle {
             switch (kind) {
                 case 'e':
                 case 'k':
-                case 's': return 1;
+                case 's':
+                case 'w': return 1;
                 case 'r': return 4;
                 default: return 0;
             }
@@ -905,7 +906,7 @@ public final class SceneCycle {
                 case EQUAL: return world.valueOf(first) == next();
                 case BELOW: return world.valueOf(first) < next();
                 case FLAG: return world.isSet(first);
-                case WORD: return first != 0 && first == world.word;
+                case WORD: return first == world.word;
                 default: return isWithin(world.actorAt(first));
             }
         }

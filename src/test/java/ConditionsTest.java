@@ -45,8 +45,8 @@ public final class ConditionsTest {
         due("no word", false, word, 0);
         due("word 9 again", true, word, 9);
         due("word 255", true, asking(3, 255), 255);
-        due("0 is no word", false, asking(3, 0), 0);
-        due("0 is not the word 5", false, asking(3, 0), 5);
+        due("word 1", true, asking(3, 1), 1);
+        due("no word is not the word 1", false, asking(3, 1), 0);
     }
 
     private static boolean within(int left, int top, int right, int bottom) {

@@ -10,12 +10,14 @@ public final class LoadLogicTest {
     private static final int[] X = {0, 15};
     private static final int[] Y = {0, 11};
     private static final int[] SIZE = {1, 4};
+    private static final int[] WORD = {1, 255};
 
     public static void main(String[] args) {
         plainRows();
         instructions();
         ranks();
         tests();
+        wordZero();
         nesting();
         gotos();
         ifs();
@@ -106,7 +108,7 @@ public final class LoadLogicTest {
         checkRanges(Scenes.bytes(8, 0), distance, V, N);
         checkRanges(Scenes.bytes(8, 1), distance, V, N);
         checkRanges(Scenes.bytes(8, 2), distance, F);
-        checkRanges(Scenes.bytes(8, 3), distance, N);
+        checkRanges(Scenes.bytes(8, 3), distance, WORD);
         checkRanges(Scenes.bytes(8, 4), distance, O, X, Y, X, Y);
         checkRanges(Scenes.bytes(8, 5, 2), distance, F);
         checkRanges(Scenes.bytes(8, 6, 2, 0, 2), distance, F);
@@ -119,6 +121,20 @@ public final class LoadLogicTest {
         due(-6, 8, 6, 2, 0);
         due(-6, 8, 7, 2, 0, 8, 0, 0);
         due(-5, 8, 2, 0);
+    }
+
+    /** A word 0 is none, so no test may ask for it: the 0 is at fault, wherever the test stands. */
+    private static void wordZero() {
+        due(-4, 8, 3, 0);
+        due(-4, 8, 3, 0, 0);
+        due(-4, 8, 3, 0, 9, 19);
+        due(-5, 8, 5, 3, 0, 0);
+        due(-5, 8, 6, 3, 0, 2, 0, 0);
+        due(-7, 8, 6, 2, 0, 3, 0, 0);
+        due(-7, 8, 7, 3, 9, 3, 0, 0);
+        due(-10, 8, 5, 5, 5, 5, 5, 5, 3, 0, 0);
+        due(-6, 7, 9, 8, 3, 0, 0);
+        due(2, 8, 3, 1, 0, 8, 3, 255, 0);
     }
 
     private static void nesting() {
