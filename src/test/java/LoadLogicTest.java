@@ -34,6 +34,7 @@ public final class LoadLogicTest {
     }
 
     private static void plainRows() {
+        CHECK.sentence("Instructions, one after the other, up to the logic's end");
         due(0);
         due(1, 0);
         due(1, 18);
@@ -46,24 +47,25 @@ public final class LoadLogicTest {
     }
 
     private static void instructions() {
-        operands(1, V, N);
-        operands(2, V, N);
-        operands(3, V, V);
-        operands(4, F);
-        operands(5, F);
-        operands(6, new int[] {1, 3});
-        operands(9, O, X, Y);
-        operands(10, O);
-        operands(11, O, SIZE, SIZE);
-        operands(12, O, new int[] {0, 8});
-        operands(13, O, X, Y, F);
-        operands(14, new int[] {1, 3}, F);
-        operands(15, O);
-        operands(17, O, new int[] {0, 1});
+        operands("1 v n: variable v becomes n", 1, V, N);
+        operands("2 v n: it grows by n", 2, V, N);
+        operands("3 v w: it becomes variable w", 3, V, V);
+        operands("4 f: flag f is set", 4, F);
+        operands("5 f: it is not set any more", 5, F);
+        operands("6 k: CALL of logic k (1 .. 3)", 6, new int[] {1, 3});
+        operands("9 o x y: the object is shown, at (x, y)", 9, O, X, Y);
+        operands("10 o: it is not shown any more", 10, O);
+        operands("11 o w h (1 .. 4 both): width and height", 11, O, SIZE, SIZE);
+        operands("12 o d (0 .. 8): free, direction d", 12, O, new int[] {0, 8});
+        operands("13 o x y f: going to (x, y), with flag f", 13, O, X, Y, F);
+        operands("14 o f: following object 0, with flag f; o is not 0", 14, new int[] {1, 3}, F);
+        operands("15 o: wandering", 15, O);
+        operands("17 o b (0 or 1): ignoring if b is 1, else not", 17, O, new int[] {0, 1});
     }
 
     /** Both ends of every operand's range, one beyond them, and rows that break off. */
-    private static void operands(int code, int[]... ranges) {
+    private static void operands(String sentence, int code, int[]... ranges) {
+        CHECK.sentence(sentence);
         checkRanges(Scenes.bytes(code), Scenes.bytes(), ranges);
     }
 
@@ -94,6 +96,7 @@ public final class LoadLogicTest {
     }
 
     private static void ranks() {
+        CHECK.sentence("16 o r (0, or 4 .. 15): the rank");
         for (int rank = 0; rank <= 17; rank++) {
             boolean fits = rank == 0 || rank >= 4 && rank <= 15;
             due(fits ? 1 : -4, 16, 3, rank);
@@ -105,14 +108,23 @@ public final class LoadLogicTest {
 
     private static void tests() {
         int[] distance = {0};
+        CHECK.sentence("0 v n: the variable is n");
         checkRanges(Scenes.bytes(8, 0), distance, V, N);
+        CHECK.sentence("1 v n: it is below n");
         checkRanges(Scenes.bytes(8, 1), distance, V, N);
+        CHECK.sentence("2 f: the flag is set");
         checkRanges(Scenes.bytes(8, 2), distance, F);
+        CHECK.sentence("3 n: n is the cycle's word, n not 0");
         checkRanges(Scenes.bytes(8, 3), distance, WORD);
+        CHECK.sentence("4 o x y x y: the object is shown, and its base lies within");
         checkRanges(Scenes.bytes(8, 4), distance, O, X, Y, X, Y);
+        CHECK.sentence("5 t: t does not hold");
         checkRanges(Scenes.bytes(8, 5, 2), distance, F);
+        CHECK.sentence("6 t t: both hold");
         checkRanges(Scenes.bytes(8, 6, 2, 0, 2), distance, F);
+        CHECK.sentence("7 t t: at least one does");
         checkRanges(Scenes.bytes(8, 7, 2, 0, 1), distance, V, N);
+        CHECK.sentence("where an instruction or test is, a byte that is none");
         due(-3, 8);
         due(-3, 8, 8, 0, 0);
         due(-3, 8, 255, 0, 0);
@@ -125,6 +137,7 @@ public final class LoadLogicTest {
 
     /** A word 0 is none, so no test may ask for it: the 0 is at fault, wherever the test stands. */
     private static void wordZero() {
+        CHECK.sentence("3 n: n is the cycle's word, n not 0");
         due(-4, 8, 3, 0);
         due(-4, 8, 3, 0, 0);
         due(-4, 8, 3, 0, 9, 19);
@@ -138,6 +151,7 @@ public final class LoadLogicTest {
     }
 
     private static void nesting() {
+        CHECK.sentence("At most six tests of the kinds 5 to 7 stand within one another (the first byte of a seventh is at fault)");
         int[] flagTest = {2, 0};
         int[] distance = {0};
         int[] instruction = {8};
@@ -154,6 +168,7 @@ public final class LoadLogicTest {
     }
 
     private static void gotos() {
+        CHECK.sentence("the first GOTO or IF that leads neither to an instruction's beginning nor to the end");
         due(-3, 7);
         due(1, 7, 0);
         due(-2, 7, 1);
@@ -172,6 +187,7 @@ public final class LoadLogicTest {
     }
 
     private static void ifs() {
+        CHECK.sentence("the first GOTO or IF that leads neither to an instruction's beginning nor to the end (for IF: by its d)");
         due(1, 8, 2, 0, 0);
         due(-2, 8, 2, 0, 1);
         due(2, 8, 2, 0, 1, 0);
@@ -184,6 +200,7 @@ public final class LoadLogicTest {
     }
 
     private static void firstFault() {
+        CHECK.sentence("and, when there is none of these, the first byte of the first GOTO or IF that leads neither");
         due(-2, 7, 1, 9, 1, 2, 3);
         due(-7, 7, 1, 9, 1, 2, 12);
         due(-4, 7, 9, 19);
@@ -194,6 +211,7 @@ public final class LoadLogicTest {
     }
 
     private static void loadedOnce() {
+        CHECK.sentence("which happens at most once, if it has no FAULT");
         SceneCycle several = new SceneCycle(50);
         Scenes.addLoaded(several, 2, Scenes.repeat(64, 0));
         Scenes.putAll(several, 1, 7, 62);

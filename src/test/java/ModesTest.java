@@ -1,7 +1,6 @@
 /** Promise 4: objects that go, follow and wander, and the flags of the ground. */
 public final class ModesTest {
     private static final Check CHECK = new Check();
-    private static final int[] NO_PICTURE = {};
 
     public static void main(String[] args) {
         going();
@@ -23,7 +22,7 @@ public final class ModesTest {
     }
 
     private static void going() {
-        SceneCycle scene = Scenes.onceOnly(NO_PICTURE, 9, 1, 2, 5, 13, 1, 5, 7, 6);
+        SceneCycle scene = Scenes.onceOnly(Scenes.NO_PICTURE, 9, 1, 2, 5, 13, 1, 5, 7, 6);
         Scenes.plainCycle(scene);
         due("going", "3,6", 4, 1, scene, 1);
         Scenes.plainCycle(scene);
@@ -43,27 +42,27 @@ public final class ModesTest {
             {5, 5, 1}, {6, 5, 2}, {6, 6, 3}, {6, 7, 4}, {5, 7, 5}, {4, 7, 6}, {4, 6, 7}, {4, 5, 8}
         };
         for (int[] goal : goals) {
-            SceneCycle one = Scenes.onceOnly(NO_PICTURE, 9, 0, 5, 6, 13, 0, goal[0], goal[1], 6);
+            SceneCycle one = Scenes.onceOnly(Scenes.NO_PICTURE, 9, 0, 5, 6, 13, 0, goal[0], goal[1], 6);
             Scenes.plainCycle(one);
             CHECK.due("towards the goal", goal[2], one.object(0, Scenes.DIRECTION));
         }
-        SceneCycle atGoal = Scenes.onceOnly(NO_PICTURE, 9, 2, 5, 6, 12, 2, 3, 13, 2, 5, 6, 15, 13, 2, 5, 6, 9);
+        SceneCycle atGoal = Scenes.onceOnly(Scenes.NO_PICTURE, 9, 2, 5, 6, 12, 2, 3, 13, 2, 5, 6, 15, 13, 2, 5, 6, 9);
         Scenes.plainCycle(atGoal);
         due("at its goal already", "5,6", 0, 0, atGoal, 2);
         CHECK.due("the latest flag", true, atGoal.flag(9));
-        SceneCycle hidden = Scenes.onceOnly(NO_PICTURE, 13, 2, 0, 0, 9);
+        SceneCycle hidden = Scenes.onceOnly(Scenes.NO_PICTURE, 13, 2, 0, 0, 9);
         Scenes.plainCycle(hidden);
         due("not shown", "0,0", 0, 1, hidden, 2);
         CHECK.due("does not arrive", false, hidden.flag(9));
     }
 
     private static void goingIsStopped() {
-        SceneCycle scene = Scenes.onceOnly(NO_PICTURE, 9, 1, 5, 6, 13, 1, 9, 6, 7, 9, 2, 6, 6);
+        SceneCycle scene = Scenes.onceOnly(Scenes.NO_PICTURE, 9, 1, 5, 6, 13, 1, 9, 6, 7, 9, 2, 6, 6);
         Scenes.plainCycle(scene);
         due("stopped", "5,6", 0, 1, scene, 1);
         Scenes.plainCycle(scene);
         due("still stopped", "5,6", 0, 1, scene, 1);
-        SceneCycle horizon = Scenes.onceOnly(NO_PICTURE, 9, 0, 5, 4, 13, 0, 5, 0, 7);
+        SceneCycle horizon = Scenes.onceOnly(Scenes.NO_PICTURE, 9, 0, 5, 4, 13, 0, 5, 0, 7);
         Scenes.plainCycle(horizon);
         due("to the horizon", "5,3", 1, 1, horizon, 0);
         Scenes.plainCycle(horizon);
@@ -73,7 +72,7 @@ public final class ModesTest {
     }
 
     private static void following() {
-        SceneCycle scene = Scenes.onceOnly(NO_PICTURE, 9, 0, 10, 9, 9, 1, 2, 5, 14, 1, 8);
+        SceneCycle scene = Scenes.onceOnly(Scenes.NO_PICTURE, 9, 0, 10, 9, 9, 1, 2, 5, 14, 1, 8);
         String[] places = {"3,6", "4,7", "5,8", "6,9", "7,9", "8,9"};
         int[] directions = {4, 4, 4, 4, 3, 3};
         for (int i = 0; i < places.length; i++) {
@@ -84,7 +83,7 @@ public final class ModesTest {
         Scenes.plainCycle(scene);
         due("arrived", "8,9", 0, 0, scene, 1);
         CHECK.due("flag", true, scene.flag(8));
-        SceneCycle moving = Scenes.onceOnly(NO_PICTURE, 9, 0, 5, 6, 12, 0, 3, 9, 1, 3, 6, 14, 1, 8);
+        SceneCycle moving = Scenes.onceOnly(Scenes.NO_PICTURE, 9, 0, 5, 6, 12, 0, 3, 9, 1, 3, 6, 14, 1, 8);
         Scenes.plainCycle(moving);
         due("object 0 made its step before", "4,6", 3, 2, moving, 1);
     }
@@ -92,20 +91,20 @@ public final class ModesTest {
     private static void nearEnough() {
         for (int dx = -3; dx <= 3; dx++) {
             for (int dy = -2; dy <= 2; dy++) {
-                SceneCycle scene = Scenes.onceOnly(NO_PICTURE, 9, 0, 7, 7, 9, 3, 7 + dx, 7 + dy, 14, 3, 8);
+                SceneCycle scene = Scenes.onceOnly(Scenes.NO_PICTURE, 9, 0, 7, 7, 9, 3, 7 + dx, 7 + dy, 14, 3, 8);
                 Scenes.plainCycle(scene);
                 boolean near = Math.abs(dx) <= 2 && Math.abs(dy) <= 1;
                 CHECK.due("near by " + dx + ", " + dy, near, scene.flag(8));
                 CHECK.due("mode by " + dx + ", " + dy, near ? 0 : 2, scene.object(3, Scenes.MODE));
             }
         }
-        SceneCycle wide = Scenes.onceOnly(NO_PICTURE, 11, 3, 4, 1, 9, 0, 9, 7, 9, 3, 5, 7, 14, 3, 8);
+        SceneCycle wide = Scenes.onceOnly(Scenes.NO_PICTURE, 11, 3, 4, 1, 9, 0, 9, 7, 9, 3, 5, 7, 14, 3, 8);
         Scenes.plainCycle(wide);
         CHECK.due("only the columns x count", false, wide.flag(8));
     }
 
     private static void followingNobody() {
-        SceneCycle scene = Scenes.onceOnly(NO_PICTURE, 9, 1, 2, 5, 12, 1, 3, 14, 1, 8);
+        SceneCycle scene = Scenes.onceOnly(Scenes.NO_PICTURE, 9, 1, 2, 5, 12, 1, 3, 14, 1, 8);
         Scenes.plainCycle(scene);
         due("object 0 is not shown", "2,5", 0, 2, scene, 1);
         CHECK.due("flag", false, scene.flag(8));
@@ -114,16 +113,16 @@ public final class ModesTest {
     private static void wandering() {
         for (int luck = 0; luck < 9; luck++) {
             for (int o = 0; o < 4; o++) {
-                SceneCycle scene = Scenes.onceOnly(NO_PICTURE, 9, o, 5, 6, 15, o);
+                SceneCycle scene = Scenes.onceOnly(Scenes.NO_PICTURE, 9, o, 5, 6, 15, o);
                 scene.cycle(0, 0, luck);
                 CHECK.due("luck " + luck + " of " + o, 1 + (luck + o) % 8, scene.object(o, Scenes.DIRECTION));
             }
         }
-        SceneCycle most = Scenes.onceOnly(NO_PICTURE, 9, 3, 5, 6, 15, 3);
+        SceneCycle most = Scenes.onceOnly(Scenes.NO_PICTURE, 9, 3, 5, 6, 15, 3);
         most.cycle(0, 0, 255);
         due("luck 255", "6,6", 3, 3, most, 3);
 
-        SceneCycle scene = Scenes.onceOnly(NO_PICTURE, 9, 1, 14, 6, 15, 1);
+        SceneCycle scene = Scenes.onceOnly(Scenes.NO_PICTURE, 9, 1, 14, 6, 15, 1);
         scene.cycle(0, 0, 1);
         due("begins", "15,6", 3, 3, scene, 1);
         scene.cycle(0, 0, 5);
@@ -133,7 +132,7 @@ public final class ModesTest {
         scene.cycle(0, 0, 1);
         due("and on", "13,6", 7, 3, scene, 1);
 
-        SceneCycle first = Scenes.onceOnly(NO_PICTURE, 9, 0, 15, 6, 15, 0);
+        SceneCycle first = Scenes.onceOnly(Scenes.NO_PICTURE, 9, 0, 15, 6, 15, 0);
         first.cycle(0, 5, 2);
         due("object 0 at an edge, without a key", "15,6", 3, 3, first, 0);
         CHECK.due("the edge", 2, first.variable(0));
@@ -189,11 +188,11 @@ public final class ModesTest {
     }
 
     private static void groundAndArrival() {
-        SceneCycle own = Scenes.onceOnly(NO_PICTURE, 9, 0, 5, 6, 13, 0, 5, 6, 0);
+        SceneCycle own = Scenes.onceOnly(Scenes.NO_PICTURE, 9, 0, 5, 6, 13, 0, 5, 6, 0);
         Scenes.plainCycle(own);
         due("object 0 arrives", "5,6", 0, 0, own, 0);
         CHECK.due("the ground's flag comes after", false, own.flag(0));
-        SceneCycle other = Scenes.onceOnly(NO_PICTURE, 9, 0, 5, 6, 9, 1, 7, 6, 13, 1, 7, 6, 0);
+        SceneCycle other = Scenes.onceOnly(Scenes.NO_PICTURE, 9, 0, 5, 6, 9, 1, 7, 6, 13, 1, 7, 6, 0);
         Scenes.plainCycle(other);
         CHECK.due("an arrival after object 0's step", true, other.flag(0));
         Scenes.plainCycle(other);

@@ -8,6 +8,9 @@ final class Scenes {
     static final int SHOWN = 5;
     static final int WIDTH = 6;
     static final int HEIGHT = 7;
+    static final int[] NO_PICTURE = {};
+    /** Numbers that lie far out of every range. */
+    static final int[] FAR = {Integer.MIN_VALUE, -1000, 1000, Integer.MAX_VALUE};
 
     private Scenes() {
     }
@@ -87,6 +90,13 @@ final class Scenes {
         return scene;
     }
 
+    /** Such a scene after its first cycle. */
+    static SceneCycle played(int[] picture, int... instructions) {
+        SceneCycle scene = onceOnly(picture, instructions);
+        plainCycle(scene);
+        return scene;
+    }
+
     /** The picture as it is shown, of one layer: a row of hexadecimal digits for each row. */
     static String shown(int layer, int... picture) {
         SceneCycle scene = new SceneCycle(200);
@@ -101,6 +111,19 @@ final class Scenes {
         for (int y = 0; y < 12; y++) {
             for (int x = 0; x < 16; x++) {
                 text.append(Character.forDigit(scene.cell(x, y, layer), 16));
+            }
+            text.append('\n');
+        }
+        return text.toString();
+    }
+
+    /** What is seen at all cells: a colour as a hexadecimal digit, objects 0 to 3 as A to D. */
+    static String seenAll(SceneCycle scene) {
+        StringBuilder text = new StringBuilder();
+        for (int y = 0; y < 12; y++) {
+            for (int x = 0; x < 16; x++) {
+                int seen = scene.seen(x, y);
+                text.append(seen < 16 ? Character.forDigit(seen, 16) : (char) ('A' + seen - 16));
             }
             text.append('\n');
         }

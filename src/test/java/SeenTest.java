@@ -1,7 +1,6 @@
 /** Promise 13: seen. */
 public final class SeenTest {
     private static final Check CHECK = new Check();
-    private static final int[] NO_PICTURE = {};
 
     public static void main(String[] args) {
         wrong();
@@ -10,24 +9,6 @@ public final class SeenTest {
         depths();
         seenThrough();
         CHECK.end();
-    }
-
-    private static SceneCycle after(int[] picture, int... instructions) {
-        SceneCycle scene = Scenes.onceOnly(picture, instructions);
-        Scenes.plainCycle(scene);
-        return scene;
-    }
-
-    private static String seenAll(SceneCycle scene) {
-        StringBuilder text = new StringBuilder();
-        for (int y = 0; y < 12; y++) {
-            for (int x = 0; x < 16; x++) {
-                int seen = scene.seen(x, y);
-                text.append(seen < 16 ? Character.forDigit(seen, 16) : (char) ('A' + seen - 16));
-            }
-            text.append('\n');
-        }
-        return text.toString();
     }
 
     private static void wrong() {
@@ -39,21 +20,21 @@ public final class SeenTest {
         }
         CHECK.due("row 12", -1, scene.seen(0, 12));
         CHECK.due("the last cell", 15, scene.seen(15, 11));
-        CHECK.due("no objects", Scenes.rows('f'), seenAll(scene));
+        CHECK.due("no objects", Scenes.rows('f'), Scenes.seenAll(scene));
     }
 
     private static void covering() {
         CHECK.due("width and height", Scenes.rows('f', "f", "f", "f", "f", "fffCC", "fffCC", "fffCC"),
-                seenAll(after(NO_PICTURE, 11, 2, 2, 3, 9, 2, 3, 6)));
+                Scenes.seenAll(Scenes.played(Scenes.NO_PICTURE, 11, 2, 2, 3, 9, 2, 3, 6)));
         CHECK.due("out of the screen above", Scenes.rows('f', "AAAA", "AAAA"),
-                seenAll(after(NO_PICTURE, 11, 0, 4, 4, 9, 0, 0, 1)));
-        CHECK.due("hidden", Scenes.rows('f'), seenAll(after(NO_PICTURE, 9, 0, 5, 6, 10, 0)));
-        SceneCycle corner = after(NO_PICTURE, 9, 3, 15, 11);
+                Scenes.seenAll(Scenes.played(Scenes.NO_PICTURE, 11, 0, 4, 4, 9, 0, 0, 1)));
+        CHECK.due("hidden", Scenes.rows('f'), Scenes.seenAll(Scenes.played(Scenes.NO_PICTURE, 9, 0, 5, 6, 10, 0)));
+        SceneCycle corner = Scenes.played(Scenes.NO_PICTURE, 9, 3, 15, 11);
         CHECK.due("in the corner", 19, corner.seen(15, 11));
     }
 
     private static int frontOf(int... instructions) {
-        return after(NO_PICTURE, instructions).seen(5, 6);
+        return Scenes.played(Scenes.NO_PICTURE, instructions).seen(5, 6);
     }
 
     private static void ofSeveral() {
@@ -71,16 +52,16 @@ public final class SeenTest {
 
     private static void depths() {
         int[] post = {240, 1, 242, 10, 244, 3, 5, 255};
-        SceneCycle scene = after(post, 18, 11, 0, 1, 3, 9, 0, 3, 6);
+        SceneCycle scene = Scenes.played(post, 18, 11, 0, 1, 3, 9, 0, 3, 6);
         CHECK.due("in front of control 4", 16, scene.seen(3, 6));
         CHECK.due("behind control 10", 1, scene.seen(3, 5));
         CHECK.due("above it", 16, scene.seen(3, 4));
         CHECK.due("priority below by one", 1,
-                after(post, 18, 11, 0, 1, 3, 9, 0, 3, 6, 16, 0, 9).seen(3, 5));
+                Scenes.played(post, 18, 11, 0, 1, 3, 9, 0, 3, 6, 16, 0, 9).seen(3, 5));
         CHECK.due("the same priority", 16,
-                after(post, 18, 11, 0, 1, 3, 9, 0, 3, 6, 16, 0, 10).seen(3, 5));
+                Scenes.played(post, 18, 11, 0, 1, 3, 9, 0, 3, 6, 16, 0, 10).seen(3, 5));
         CHECK.due("the one that is not below it", 17,
-                after(post, 18, 9, 1, 3, 5, 16, 1, 11, 9, 0, 3, 5).seen(3, 5));
+                Scenes.played(post, 18, 9, 1, 3, 5, 16, 1, 11, 9, 0, 3, 5).seen(3, 5));
     }
 
     private static void seenThrough() {
@@ -88,7 +69,7 @@ public final class SeenTest {
             240, 6, 242, 12, 244, 3, 8, 242, 0, 244, 3, 5, 242, 1, 244, 3, 6, 242, 3, 244, 3, 7,
             242, 2, 244, 9, 4, 9, 11, 255
         };
-        SceneCycle scene = after(picture, 18, 11, 0, 1, 4, 9, 0, 3, 7, 11, 1, 1, 4, 9, 1, 9, 11);
+        SceneCycle scene = Scenes.played(picture, 18, 11, 0, 1, 4, 9, 0, 3, 7, 11, 1, 1, 4, 9, 1, 9, 11);
         for (int y = 5; y <= 7; y++) {
             CHECK.due("the depth of the cell below, row " + y, 6, scene.seen(3, y));
         }
@@ -96,7 +77,7 @@ public final class SeenTest {
         for (int y = 8; y <= 11; y++) {
             CHECK.due("none below: 4, row " + y, 17, scene.seen(9, y));
         }
-        SceneCycle low = after(picture, 18, 9, 2, 9, 7, 16, 2, 4);
+        SceneCycle low = Scenes.played(picture, 18, 9, 2, 9, 7, 16, 2, 4);
         CHECK.due("rank 4 is not below 4", 18, low.seen(9, 7));
         CHECK.due("the colour", 6, low.seen(9, 8));
     }
