@@ -143,13 +143,16 @@ public final class MotionBoundaryTest {
     private static void followingNobody() {
         CHECK.sentence("Following: its direction is 0 when object 0 is not shown");
         for (int o = 1; o <= 3; o++) {
-            SceneCycle near = walking(9, o, 1, 1, 12, o, 3, 14, o, 9);
-            due("near where object 0 would be", "1,1", 0, near, o);
+            SceneCycle never = walking(9, o, 2, 5, 12, o, 3, 14, o, 9);
+            due("never shown", "2,5", 0, never, o);
+            CHECK.due("still following", 2, never.object(o, Scenes.MODE));
+            SceneCycle far = walking(9, 0, 5, 6, 9, o, 9, 6, 12, o, 3, 14, o, 9, 10, 0);
+            due("not shown any more", "9,6", 0, far, o);
+            CHECK.due("still following", 2, far.object(o, Scenes.MODE));
+            SceneCycle near = walking(9, 0, 5, 6, 9, o, 6, 6, 12, o, 3, 14, o, 9, 10, 0);
+            due("not shown any more, but near", "6,6", 0, near, o);
             CHECK.due("it does not arrive", false, near.flag(9));
             CHECK.due("still following", 2, near.object(o, Scenes.MODE));
-            SceneCycle hidden = walking(9, 0, 5, 6, 9, o, 9, 6, 14, o, 9, 10, 0);
-            due("object 0 not shown any more", "9,6", 0, hidden, o);
-            CHECK.due("still following", 2, hidden.object(o, Scenes.MODE));
         }
     }
 

@@ -17,6 +17,7 @@ public final class ObjectsBoundaryTest {
         ranks();
         prioritiesByRow();
         ignoringOrNot();
+        fourModes();
         latestMode();
         CHECK.end();
     }
@@ -179,6 +180,19 @@ public final class ObjectsBoundaryTest {
         CHECK.due("1", 1, Scenes.loadAnswer(1, 17, 3, 1));
         CHECK.due("2", -4, Scenes.loadAnswer(1, 17, 3, 2));
         CHECK.due("255", -4, Scenes.loadAnswer(1, 17, 3, 255));
+    }
+
+    private static void fourModes() {
+        CHECK.sentence("a MODE (0 free, 1 going, 2 following, 3 wandering)");
+        for (int o = 0; o <= 3; o++) {
+            CHECK.due("free at first", 0, new SceneCycle(50).object(o, Scenes.MODE));
+            CHECK.due("going", 1, after(13, o, 15, 11, 15).object(o, Scenes.MODE));
+            CHECK.due("wandering", 3, after(15, o).object(o, Scenes.MODE));
+            CHECK.due("free again", 0, after(15, o, 12, o, 8).object(o, Scenes.MODE));
+            if (o > 0) {
+                CHECK.due("following", 2, after(14, o, 15).object(o, Scenes.MODE));
+            }
+        }
     }
 
     private static void latestMode() {

@@ -13,9 +13,12 @@ public final class PictureBoundaryTest {
         firstPointAlone();
         stepsBelow240();
         stepsToTheLeftAndUp();
+        stepsOfBoth();
         stepsOutOfTheScreen();
         onlyACommandMayStand();
+        severalFills();
         lineOfOnePoint();
+        greaterDistance();
         quotientsRoundedDown();
         longestLines();
         penOfNothing();
@@ -176,6 +179,16 @@ public final class PictureBoundaryTest {
                 240, 9, 245, 0, 8, 0x0f, 255);
     }
 
+    private static void stepsOfBoth() {
+        CHECK.sentence("s / 16 (the remainder left out) is the move to the right");
+        int[][] cases = {{0x88, 15, 11}, {0x89, 15, 2}, {0x98, 6, 11}, {0x99, 6, 2}, {0x0f, 7, 0}, {0xe8, 1, 11}};
+        for (int[] c : cases) {
+            int row = c[0] == 0x0f ? 7 : 3;
+            SceneCycle scene = Scenes.played(Scenes.bytes(240, 9, 245, 7, row, c[0], 255), 18);
+            CHECK.due("its end, by " + c[0], 9, scene.cell(c[1], c[2], 0));
+        }
+    }
+
     private static void stepsOutOfTheScreen() {
         CHECK.sentence("a step that leads out of the screen is at fault");
         for (int move = 1; move <= 8; move++) {
@@ -220,6 +233,31 @@ public final class PictureBoundaryTest {
         }
         due(-5, 244, 0, 0, 239, 255);
         due(-5, 246, 0, 0, 239, 255);
+    }
+
+    private static void severalFills() {
+        CHECK.sentence("246 x y and then any number of x y: a FILL at each of these points");
+        int[] walls = {240, 2, 244, 0, 1, 15, 1, 244, 1, 0, 244, 3, 0, 244, 6, 0, 240, 5};
+        String[] first = {"52f2ff2fffffffff", "2222222222222222"};
+        colours("one point", Scenes.rows('f', first), Scenes.join(walls, Scenes.bytes(246, 0, 0, 255)));
+        String[] three = {"5252ff2555555555", "2222222222222222"};
+        colours("three points, and one where nothing is done", Scenes.rows('f', three),
+                Scenes.join(walls, Scenes.bytes(246, 0, 0, 1, 0, 2, 0, 15, 0, 255)));
+    }
+
+    private static void greaterDistance() {
+        CHECK.sentence("with n the greater one of |c - a| and |d - b|");
+        colours("as many rows as columns", Scenes.rows('f', "f", "f", "f", "ffff9", "fffff9", "ffffff9"),
+                240, 9, 244, 4, 3, 6, 5, 255);
+        colours("as many, upwards", Scenes.rows('f', "f", "f", "f", "ffffff9", "fffff9", "ffff9"),
+                240, 9, 244, 4, 5, 6, 3, 255);
+        colours("one column more", Scenes.rows('f', "f", "f", "f", "ffff9", "fffff99", "fffffff9"),
+                240, 9, 244, 4, 3, 7, 5, 255);
+        colours("one row more", Scenes.rows('f', "f", "f", "f", "ffff9", "fffff9", "fffff9", "ffffff9"),
+                240, 9, 244, 4, 3, 6, 6, 255);
+        colours("no row", Scenes.rows('f', "f", "f", "f", "ffff9999"), 240, 9, 244, 7, 3, 4, 3, 255);
+        colours("no column", Scenes.rows('f', "f", "f", "f", "ffff9", "ffff9", "ffff9"),
+                240, 9, 244, 4, 5, 4, 3, 255);
     }
 
     private static void lineOfOnePoint() {
