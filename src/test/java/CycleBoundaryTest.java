@@ -7,6 +7,7 @@ public final class CycleBoundaryTest {
 
     public static void main(String[] args) {
         words();
+        noWord();
         keys();
         lucks();
         keyThatIsTheDirection();
@@ -43,6 +44,18 @@ public final class CycleBoundaryTest {
         CHECK.due("word 255", 2, scene.cycle(255, 0, 0));
         CHECK.due("255", true, scene.flag(9));
         CHECK.due("two cycles", 2, scene.cycles());
+    }
+
+    private static void noWord() {
+        CHECK.sentence("with a word (0: none), a key and a luck");
+        SceneCycle scene = Scenes.withLogic(5, 9, 8, 3, 7, 2, 4, 9);
+        CHECK.due("none at first", 2, scene.cycle(0, 0, 0));
+        CHECK.due("the word 7", 3, scene.cycle(7, 0, 0));
+        CHECK.due("it holds", true, scene.flag(9));
+        CHECK.due("none behind it", 2, scene.cycle(0, 0, 0));
+        CHECK.due("it does not hold any more", false, scene.flag(9));
+        CHECK.due("a refused one with the word 7", -1, scene.cycle(7, 9, 0));
+        CHECK.due("none behind that", 2, scene.cycle(0, 0, 0));
     }
 
     private static void keys() {

@@ -224,6 +224,8 @@ public final class LogicBoundaryTest {
             for (int word : words) {
                 CHECK.due("word " + word + " is " + n, word == n, holds(scene, word));
             }
+            CHECK.due("word " + n + " again", true, holds(scene, n));
+            CHECK.due("no word behind " + n, false, holds(scene, 0));
         }
     }
 

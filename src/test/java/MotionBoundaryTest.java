@@ -265,6 +265,22 @@ public final class MotionBoundaryTest {
         walked.cycle(0, 0, 1);
         due("it moved as a free one", "5,8", 5, walked, 1);
         stoppedWanderer();
+        turnedWanderer();
+    }
+
+    private static void turnedWanderer() {
+        // In every cycle object 1 becomes free with direction 7, or 0 with flag 9, and wanders again.
+        int[] logic = {8, 5, 2, 8, 6, 4, 8, 9, 1, 9, 6, 12, 1, 7, 8, 2, 9, 3, 12, 1, 0, 15, 1};
+        SceneCycle scene = Scenes.withLogic(logic);
+        scene.cycle(0, 0, 1);
+        due("it had no motion: by luck", "10,6", 3, scene, 1);
+        scene.cycle(0, 0, 1);
+        due("it moved: as it was turned", "9,6", 7, scene, 1);
+        scene.mark(9, true);
+        scene.cycle(0, 0, 1);
+        due("it moved: as it was halted", "9,6", 0, scene, 1);
+        scene.cycle(0, 0, 1);
+        due("it did not move: by luck", "10,6", 3, scene, 1);
     }
 
     private static void stoppedWanderer() {
