@@ -20,8 +20,10 @@ public final class ReadmeTest {
         String program = block(readme, "java");
         Path room = Files.createTempDirectory("readme");
         try {
-            check.due("README.md's example compiles", true, compiles(room, program));
-            check.due("what it prints", block(readme, "text"), printed(room, nameOf(program)));
+            boolean compiled = compiles(room, program);
+            check.due("README.md's example compiles", true, compiled);
+            String lines = compiled ? printed(room, nameOf(program)) : "";
+            check.due("what it prints", block(readme, "text"), lines);
         } finally {
             removeAll(room);
         }
